@@ -256,16 +256,20 @@ public final class PatchDesk {
         if (next == RETURN) {
             return task.depth == 1;
         }
-        return next == SAFE && !standsOpenIn(task, applied.get(applied.size() - 1));
+        return next == SAFE && !hasPatchedFrame(task);
     }
 
-    private static boolean standsOpenIn(Task task, Patch patch) {
+    private boolean hasPatchedFrame(Task task) {
         for (int k = 0; k < task.depth; k++) {
-            if (patch.hasNamed(task.frames[k].function)) {
+            if (isInLatestPatch(task.frames[k].function)) {
                 return true;
             }
         }
         return false;
+    }
+
+    private boolean isInLatestPatch(int function) {
+        return !applied.isEmpty() && applied.get(applied.size() - 1).hasNamed(function);
     }
 
     private void stepOnce(Task task) {

@@ -47,10 +47,12 @@ public final class PromisesTest {
         goesOverAtReturn();
         goesOverAtSafe();
         goesOverOnlyWhenNothingPatchedIsOpen();
+        goesOverOnlyWhenFirstFrameIsNotPatched();
         goesOverByLatestPatchAlone();
         goesOverBackwards();
         untouchedTaskHoldsTransition();
         frameKeepsBody();
+        frameKeepsBodyOfGoneLevel();
         look();
         frame();
         patches();
@@ -224,6 +226,9 @@ public final class PromisesTest {
         x.name(0, 1);
         CHECK.fails("5: another signature", Check.UNSUPPORTED, x::apply);
         CHECK.is("5: no patch came of it", x.patches(), 0);
+        x.name(0, 0);
+        x.name(1, 0);
+        CHECK.fails("5: another signature of the other one", Check.UNSUPPORTED, x::apply);
         CHECK.fails("5: the draft is empty behind it", Check.ARGUMENT, x::apply);
         x.task(0);
         CHECK.is("5: patch 1", patch(x, 1, ADD, 1), 1);
@@ -515,6 +520,20 @@ public final class PromisesTest {
         CHECK.is("8: all have gone over", x.target(), -1);
     }
 
+    private static void goesOverOnlyWhenFirstFrameIsNotPatched() {
+        PatchDesk x = desk(2);
+        write(x, 0, false, SAFE, 0, CALL, 1, SAFE, 0);
+        write(x, 1, false, SAFE, 0);
+        x.task(0);
+        patch(x, 0, SAFE, 0);
+        CHECK.is("8: the only frame is patched", x.step(0, 1), 0);
+        CHECK.is("8: the frame below is patched", x.step(0, 3), 0);
+        CHECK.is("8: the only frame again, up to its return", x.step(0, 2), 2);
+        x.turn();
+        CHECK.is("8: backwards it is the same", x.step(0, 2), 2);
+        CHECK.is("8: and the patch is gone", x.patches(), 0);
+    }
+
     private static void goesOverByLatestPatchAlone() {
         PatchDesk x = desk(2);
         write(x, 0, false, SAFE, 0, ADD, 1);
@@ -577,6 +596,24 @@ public final class PromisesTest {
         CHECK.is("8: over", x.target(), -1);
     }
 
+    private static void frameKeepsBodyOfGoneLevel() {
+        PatchDesk x = desk(3);
+        write(x, 0, false, CALL, 1, SAFE, 0);
+        write(x, 1, false, SAFE, 0, ADD, 1, ADD, 1);
+        patch(x, 2);
+        x.task(0);
+        x.step(0, 1);
+        x.turn();
+        CHECK.is("8: back, with a frame of the level that goes", x.step(0, 1), 1);
+        CHECK.is("8: the patch is gone", x.patches(), 0);
+        patch(x, 1, ADD, 40, ADD, 40, ADD, 40);
+        CHECK.is("8: the frame's level is what it was", x.frame(0, 1, CALLED_AT), 1);
+        x.step(0, 2);
+        CHECK.is("8: the body that was there then stays the frame's", x.look(0, SUM), 2);
+        x.step(0, 1);
+        CHECK.is("8: to its own end", x.look(0, FRAMES), 1);
+    }
+
     private static void look() {
         PatchDesk x = desk(1);
         write(x, 0, false, OUT, 0, ADD, 3, OUT, 0, ADD, 2);
@@ -592,6 +629,9 @@ public final class PromisesTest {
         CHECK.is("9: steps", x.look(0, STEPS), 4);
         CHECK.is("9: how many out", x.look(0, OUTS), 2);
         CHECK.is("9: the latest out", x.look(0, LATEST), 3);
+        x.step(0, 2);
+        CHECK.is("9: another one out", x.look(0, OUTS), 3);
+        CHECK.is("9: it alone is the latest", x.look(0, LATEST), 5);
         CHECK.fails("9: what -1", Check.ARGUMENT, () -> x.look(0, -1));
         CHECK.fails("9: what 6", Check.ARGUMENT, () -> x.look(0, 6));
         CHECK.fails("9: task 1", Check.ARGUMENT, () -> x.look(1, 0));
