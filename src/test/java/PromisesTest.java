@@ -1,25 +1,5 @@
 /** Each promise by itself: ordinary inputs, the edges that the document names, wrong inputs. */
-public final class PromisesTest {
-    private static final int ADD = 0;
-    private static final int CALL = 1;
-    private static final int SAFE = 2;
-    private static final int REPEAT = 3;
-    private static final int OUT = 4;
-    private static final int CALL_WHEN = 5;
-
-    private static final int LEVEL = 0;
-    private static final int SUM = 1;
-    private static final int FRAMES = 2;
-    private static final int STEPS = 3;
-    private static final int OUTS = 4;
-    private static final int LATEST = 5;
-
-    private static final int OF = 0;
-    private static final int CALLED_AT = 1;
-    private static final int PLACE = 2;
-
-    private static final Check CHECK = new Check();
-
+public final class PromisesTest extends Desks {
     public static void main(String[] args) {
         newObject();
         function();
@@ -59,29 +39,6 @@ public final class PromisesTest {
         target();
         body();
         CHECK.end("PromisesTest");
-    }
-
-    /** Functions 0 .. count - 1 with empty bodies, each with its number as its signature. */
-    private static PatchDesk desk(int count) {
-        PatchDesk desk = new PatchDesk();
-        for (int i = 0; i < count; i++) {
-            desk.function(i);
-        }
-        return desk;
-    }
-
-    /** Writes kind, n, kind, n, .. into a body. */
-    private static void write(PatchDesk desk, int function, boolean ofDraft, int... code) {
-        for (int i = 0; i < code.length; i += 2) {
-            desk.operation(function, ofDraft, code[i], code[i + 1]);
-        }
-    }
-
-    /** Applies a patch of one function of desk(..). */
-    private static int patch(PatchDesk desk, int function, int... code) {
-        desk.name(function, function);
-        write(desk, function, true, code);
-        return desk.apply();
     }
 
     private static void newObject() {
